@@ -10,6 +10,7 @@ public final class MacroMill {
     /** A bound for loops whose own end comes far earlier. */
     private static final int MANY = 1000000;
 
+    // The numbers of the second processor's errors, then of the first one's.
     private static final int COMMENT = 1, DIRECTIVE = 2, NAME = 3, PARAMETERS = 4, HASHES = 5, AGAIN = 6, MORE = 7,
             INCLUDE = 8, MISSING = 9, NESTED = 10, CONDITION = 11, DIVISION = 12, BALANCE = 13, ENDIF = 14,
             LINE = 15, ERROR = 16, ARGUMENTS = 17, CALL = 18, PASTE = 19, DEEP = 20, ROOM = 21;
@@ -477,7 +478,7 @@ public final class MacroMill {
 
         private void endOperand() {
             wantsValue = false;
-            while (isTop(PREFIX_RANK)) {
+            for (int i = 0; i < DEPTH && isTop(PREFIX_RANK); i++) {
                 signCount--;
                 nesting--;
                 int at = valueCount - 1;
@@ -494,7 +495,7 @@ public final class MacroMill {
         }
 
         private void reduceDownTo(int rank) {
-            while (!malformed && signCount > 0 && ranks[signCount - 1] >= rank) {
+            for (int i = 0; i < DEPTH && !malformed && signCount > 0 && ranks[signCount - 1] >= rank; i++) {
                 signCount--;
                 int sign = signs[signCount];
                 // Nothing but these makes what stands behind them idle.
@@ -711,7 +712,7 @@ public final class MacroMill {
 
         void takeLine() {
             boolean ended = false;
-            while (at < BYTES && !ended) {
+            for (int i = 0; i < BYTES && at < BYTES && !ended; i++) {
                 ended = bytes[at] == LF;
                 if (!take()) {
                     return;
@@ -743,7 +744,7 @@ public final class MacroMill {
 
         private void readName() {
             kind = NAMED;
-            while (at < BYTES && (isLetter(bytes[at]) || isDigit(bytes[at]))) {
+            for (int i = 0; i < BYTES && at < BYTES && (isLetter(bytes[at]) || isDigit(bytes[at])); i++) {
                 if (!take()) {
                     return;
                 }
@@ -759,7 +760,7 @@ public final class MacroMill {
                 return;
             }
             from = at;
-            while (at < BYTES) {
+            for (int i = 0; i < BYTES && at < BYTES; i++) {
                 to = at;
                 if (isAt(true)) {
                     open--;
@@ -1304,12 +1305,10 @@ public final class MacroMill {
                 giveByte('-');
                 left = -left;
             }
-            long scale = 1;
-            while (scale <= left / 10) {
-                scale *= 10;
-            }
-            for (; scale > 0; scale /= 10) {
-                giveByte((int) ('0' + left / scale % 10));
+            for (long scale = 1000000000L; scale > 0; scale /= 10) {
+                if (left >= scale || scale == 1) {
+                    giveByte((int) ('0' + left / scale % 10));
+                }
             }
         }
 
@@ -1790,12 +1789,10 @@ public final class MacroMill {
         }
 
         void makeNumber(int number) {
-            int scale = 1;
-            while (scale <= number / 10) {
-                scale *= 10;
-            }
-            for (; scale > 0; scale /= 10) {
-                make('0' + number / scale % 10);
+            for (int scale = 1000000000; scale > 0; scale /= 10) {
+                if (number >= scale || scale == 1) {
+                    make('0' + number / scale % 10);
+                }
             }
         }
 
@@ -2245,7 +2242,7 @@ public final class MacroMill {
         boolean takeLine() {
             count = 0;
             int limit = depth > 0 ? textTo[file[depth - 1]] : 0;
-            while (depth > 0 && at[depth - 1] < limit && count == 0 && outcome.isFine()) {
+            for (int i = 0; i < MANY && depth > 0 && at[depth - 1] < limit && count == 0 && outcome.isFine(); i++) {
                 at[depth - 1] = takeTokens(at[depth - 1], limit);
             }
             if (count > 0 && outcome.isFine()) {
@@ -2262,7 +2259,7 @@ public final class MacroMill {
             byte[] bytes = tokens.bytes;
             boolean behindBlank = true;
             int place = from;
-            while (place < limit && outcome.isFine()) {
+            for (int i = 0; i < MANY && place < limit && outcome.isFine(); i++) {
                 int b = bytes[place];
                 int behind = place + 1 < limit ? bytes[place + 1] : 0;
                 if (b == LF) {
