@@ -1246,6 +1246,8 @@ public final class MacroMill {
                 int kind = meanings.kindOf(meaning);
                 if (kind == Meanings.TEXT) {
                     giveText(meaning);
+                } else if (kind == Meanings.EVAL) {
+                    evaluate();
                 } else if (kind <= Meanings.IFELSE) {
                     answerMacros(kind);
                 } else if (kind <= Meanings.SUBSTR) {
@@ -1376,9 +1378,6 @@ public final class MacroMill {
 
         private void answerValues(int kind) {
             switch (kind) {
-                case Meanings.EVAL:
-                    evaluate();
-                    break;
                 case Meanings.INCR:
                     giveNumber(number(0) + 1);
                     break;
@@ -1709,19 +1708,19 @@ public final class MacroMill {
         }
 
         int line(int token) {
-            return lineOf(look[token]);
+            return look[token] >>> LINE_SHIFT;
         }
 
         int kind(int token) {
-            return kindOf(look[token]);
+            return look[token] & KINDS;
         }
 
         int from(int token) {
-            return fromOf(spelling[token]);
+            return (int) (spelling[token] >>> 32);
         }
 
         int length(int token) {
-            return lengthOf(spelling[token]);
+            return (int) spelling[token];
         }
 
 
@@ -1958,10 +1957,6 @@ public final class MacroMill {
             return -1;
         }
 
-        int findToken(int token) {
-            return find(tokens.bytes, tokens.from(token), tokens.length(token));
-        }
-
         boolean isThere(int macro) {
             return parameters[macro] != GONE;
         }
@@ -2003,7 +1998,7 @@ public final class MacroMill {
 
         /** A macro that is not there gets a meaning; not, if there is no room for it. */
         boolean define(int nameToken, int[] parameterTokens, int count, boolean more, int from, int to) {
-            int macro = findToken(nameToken);
+            int macro = find(tokens.bytes, tokens.from(nameToken), tokens.length(nameToken));
             int entries = Math.max(count, 0) + to - from;
             if (macro < 0 && names >= MOST_NAMES || used + entries > MOST_TOKENS) {
                 return false;
@@ -2770,7 +2765,7 @@ public final class MacroMill {
     /** The second processor: takes lines, obeys directives and has rows of text replaced. */
     private static final class Second {
         private static final int MOST_IN_ROW = 8000, MOST_CONDITIONS = 100;
-        private static final int NO_WORD = 0, DEFINE_WORD = 1, UNDEF_WORD = 2, IFDEF_WORD = 3, IFNDEF_WORD = 4, INCLUDE_WORD = 5,
+        private static final int NOTHING = -1, NO_WORD = 0, DEFINE_WORD = 1, UNDEF_WORD = 2, IFDEF_WORD = 3, IFNDEF_WORD = 4, INCLUDE_WORD = 5,
                 IF_WORD = 6, ELIF_WORD = 7, ELSE_WORD = 8, ENDIF_WORD = 9, LINE_WORD = 10, ERROR_WORD = 11, PRAGMA_WORD = 12;
         /** In the order of their numbers. */
         private static final String WORDS = "define undef ifdef ifndef include if elif else endif line error pragma ";
@@ -2796,6 +2791,7 @@ public final class MacroMill {
         /** The directive at hand: its tokens, and the word whose tokens must be replaced before it is obeyed. */
         private int from;
         private int to;
+        private int line;
         private int waiting;
         private int waitingFirst;
         private final int[] parameterTokens = new int[Macros.MOST_PARAMETERS];
@@ -2839,10 +2835,21 @@ public final class MacroMill {
                     tokens.next[from - 1] = Tokens.END;
                     replacer.replaceText(0);
                 }
-                useLine(taken, isDirective);
-                if (outcome.isFine() && waiting != NO_WORD) {
+                if (!outcome.isFine()) {
+                    return;
+                }
+                if (isDirective) {
+                    lines.row = 0;
+                    line = tokens.line(from);
+                    obey(to - from > 1 ? wordOf(from + 1) : NOTHING);
+                } else if (taken) {
+                    keepText();
+                } else {
+                    endFile();
+                }
+                if (waiting != NO_WORD && outcome.isFine()) {
                     tokens.used = to;
-                    finishDirective(replacer.replaceDirective(waitingFirst, tokens.line(from)));
+                    finishDirective(replacer.replaceDirective(waitingFirst, line));
                 }
             }
             if (outcome.isFine() && outcome.putOut > 0) {
@@ -2851,24 +2858,8 @@ public final class MacroMill {
             }
         }
 
-        private void useLine(boolean taken, boolean isDirective) {
-            if (!outcome.isFine()) {
-                return;
-            }
-            if (taken && !isDirective) {
-                keepText();
-                return;
-            }
-            lines.row = 0;
-            if (isDirective) {
-                obey();
-            } else {
-                endFile();
-            }
-        }
-
         private void fail(int number) {
-            outcome.fail(number, tokens.line(from));
+            outcome.fail(number, line);
         }
 
         private void keepText() {
@@ -2883,6 +2874,7 @@ public final class MacroMill {
         }
 
         private void endFile() {
+            lines.row = 0;
             if (conditions > conditionsBefore[lines.depth - 1]) {
                 outcome.fail(ENDIF, conditionLine[conditions - 1]);
                 return;
@@ -2894,24 +2886,44 @@ public final class MacroMill {
             return conditions == 0 || (condition[conditions - 1] & COUNTS) != 0;
         }
 
-        private void obey() {
-            if (to - from == 1) {
-                return;
-            }
-            int word = wordOf(from + 1);
-            boolean isDead = conditions > 0 && (condition[conditions - 1] & DEAD) != 0;
-            if (word == IF_WORD || word == IFDEF_WORD || word == IFNDEF_WORD) {
-                if (isCounting()) {
-                    beginCondition(word);
-                } else {
-                    openCondition(DEAD);
-                }
-            } else if (isDead) {
-                conditions -= word == ENDIF_WORD ? 1 : 0;
-            } else if (word == ELIF_WORD || word == ELSE_WORD || word == ENDIF_WORD) {
-                continueCondition(word);
-            } else if (isCounting()) {
-                obeyOther(word);
+        private void obey(int word) {
+            boolean counting = isCounting();
+            switch (word) {
+                case NOTHING:
+                    break;
+                case IF_WORD:
+                case IFDEF_WORD:
+                case IFNDEF_WORD:
+                    if (!counting) {
+                        openCondition(DEAD);
+                    } else if (word == IF_WORD) {
+                        waitForCondition(word);
+                    } else if (isNameAlone()) {
+                        openCondition(isMacro(from + 2) == (word == IFDEF_WORD) ? COUNTS | HAS_COUNTED : 0);
+                    }
+                    break;
+                case ELIF_WORD:
+                case ELSE_WORD:
+                case ENDIF_WORD:
+                    if (continueCondition(word)) {
+                        waitForCondition(word);
+                    }
+                    break;
+                case DEFINE_WORD:
+                    if (counting) {
+                        define();
+                    }
+                    break;
+                case INCLUDE_WORD:
+                    if (counting) {
+                        include();
+                    }
+                    break;
+                default:
+                    if (counting) {
+                        obeyOther(word);
+                    }
+                    break;
             }
         }
 
@@ -2935,16 +2947,10 @@ public final class MacroMill {
 
         private void obeyOther(int word) {
             switch (word) {
-                case DEFINE_WORD:
-                    define();
-                    break;
                 case UNDEF_WORD:
-                    if (isNameAlone() && macros.findToken(from + 2) >= 0) {
-                        macros.undefine(macros.findToken(from + 2));
+                    if (isNameAlone() && isMacro(from + 2)) {
+                        macros.undefine(findMacro(from + 2));
                     }
-                    break;
-                case INCLUDE_WORD:
-                    include();
                     break;
                 case LINE_WORD:
                     waitForTokens(word);
@@ -2992,8 +2998,12 @@ public final class MacroMill {
             return outcome.isFine();
         }
 
+        private int findMacro(int token) {
+            return macros.find(tokens.bytes, tokens.from(token), tokens.length(token));
+        }
+
         private boolean isMacro(int token) {
-            int macro = macros.findToken(token);
+            int macro = findMacro(token);
             return macro >= 0 && macros.isThere(macro);
         }
 
@@ -3003,23 +3013,18 @@ public final class MacroMill {
                 return;
             }
             condition[conditions] = state;
-            conditionLine[conditions] = tokens.line(from);
+            conditionLine[conditions] = line;
             conditions++;
         }
 
-        private void beginCondition(int word) {
-            if (word == IF_WORD) {
-                waitForCondition(word);
-            } else if (isNameAlone()) {
-                openCondition(isMacro(from + 2) == (word == IFDEF_WORD) ? COUNTS | HAS_COUNTED : 0);
-            }
-        }
-
-        private void continueCondition(int word) {
+        /** Obeys what belongs to a condition that is open, and tells whether an elif's tokens are to be looked at. */
+        private boolean continueCondition(int word) {
             boolean isThere = conditions > conditionsBefore[lines.depth - 1];
             int state = isThere ? condition[conditions - 1] : 0;
             boolean hasCounted = (state & HAS_COUNTED) != 0;
-            if (word != ELIF_WORD && to - from > 2) {
+            if ((state & DEAD) != 0) {
+                conditions -= word == ENDIF_WORD ? 1 : 0;
+            } else if (word != ELIF_WORD && to - from > 2) {
                 fail(MORE);
             } else if (!isThere || word != ENDIF_WORD && (state & HAD_ELSE) != 0) {
                 fail(BALANCE);
@@ -3030,8 +3035,9 @@ public final class MacroMill {
             } else if (hasCounted) {
                 condition[conditions - 1] = HAS_COUNTED;
             } else {
-                waitForCondition(word);
+                return true;
             }
+            return false;
         }
 
         /** What is asked by defined becomes 1 or 0; the tokens then are to be replaced. */
@@ -3265,7 +3271,7 @@ public final class MacroMill {
             } else if (lines.depth > depthLimit) {
                 fail(NESTED);
             } else {
-                lines.begin(file, tokens.line(from));
+                lines.begin(file, line);
                 conditionsBefore[lines.depth - 1] = conditions;
             }
         }
@@ -3291,7 +3297,7 @@ public final class MacroMill {
                 if (outcome.isFine() && !macros.define(name, parameterTokens, parameterCount, takesMore, body, to)) {
                     fail(ROOM);
                 }
-            } else if (!macros.isSame(macros.findToken(name), parameterTokens, parameterCount, takesMore, body, to)) {
+            } else if (!macros.isSame(findMacro(name), parameterTokens, parameterCount, takesMore, body, to)) {
                 fail(AGAIN);
             }
         }
@@ -3305,7 +3311,8 @@ public final class MacroMill {
             }
             while (at + 1 < to && parameterCount < Macros.MOST_PARAMETERS && !takesMore) {
                 takesMore = tokens.isSpelled(at, "...");
-                if (!takesMore && !isNewParameter(at)) {
+                boolean isName = tokens.kind(at) == Tokens.NAMED && !tokens.isSpelled(at, "__VA_ARGS__");
+                if (!takesMore && (!isName || parameterOf(at) >= 0)) {
                     return -1;
                 }
                 parameterTokens[parameterCount] = at;
@@ -3319,10 +3326,6 @@ public final class MacroMill {
                 at += 2;
             }
             return -1;
-        }
-
-        private boolean isNewParameter(int token) {
-            return tokens.kind(token) == Tokens.NAMED && !tokens.isSpelled(token, "__VA_ARGS__") && parameterOf(token) < 0;
         }
 
         private int parameterOf(int token) {
