@@ -78,12 +78,13 @@ public final class SecondLimitsTest {
 
     private static void sets() {
         fine(setsOf(1000) + setsOf(500));
-        full(setsOf(1000) + "\n\nn11(n10(z))", 34 + 1);
+        full(setsOf(1000) + "\n\nn11(n10(z))", 35);
         fine(setsOf(1000) + "#define e\n#define g(x)\ne g(1) n0(n1(z))");
         full(setsOf(1000) + "#define g(x) x\n\ng(1)", 35);
-        // Pasting gives sets, too: what both sides have in common.
-        String macros = "#define j(x,y) x##y\n#define k(x) j(x,x) j(x,p)\n";
-        fine(macros + setsOf(990) + "\nk(a)");
+        // Pasting gives sets, too: P and g are what both sides have in common, one of nine sets that come of this.
+        String pasting = "\n#define j(x,y) x##y\n#define P(x) x\n#define Q(x) x\n#define R(x) x\n#define g(x) j x\n\ng((P(Q(a)),P(R(b))))";
+        fine(setsOf(991) + pasting);
+        full(setsOf(992) + pasting, 12 + 18 + 8);
     }
 
     private static void names() {
