@@ -1,14 +1,33 @@
-/** The bounds of the first processor: errors 34 DEEP and 40 ROOM. */
+/** The bounds of the first processor: errors 31 FUEL, 34 DEEP and 40 ROOM, each with the last value that is taken. */
 public final class FirstLimitsTest {
     public static void main(String[] args) {
+        fuelOfEachByte();
+        fuelThatIsJustEnough();
+        mostFuel();
         openCalls();
+        openCallsWithoutArguments();
+        callsThatAreClosed();
+        deepBeforeRoom();
         inputLeft();
+        inputLeftOfGreatResults();
         bytesOfCalls();
+        bytesOfInnerCalls();
+        bytesOfClosedCalls();
         numberOfArguments();
+        numberOfArgumentsOfInnerCalls();
         numberOfMeanings();
+        numberOfMeaningsOfOneName();
+        builtInMeaningsCountForNothing();
+        meaningsThatAreGone();
         bytesOfMeanings();
+        bytesOfMeaningsThatAreReplaced();
+        bytesOfMeaningsThatAreGone();
         bytesOfDiversions();
+        bytesOfNoDiversion();
+        bytesThatAreUndiverted();
+        nameBeforeRoom();
         manyMeanings();
+        behindAnError();
         Bench.finish("FirstLimitsTest");
     }
 
@@ -16,54 +35,154 @@ public final class FirstLimitsTest {
         return "x".repeat(count);
     }
 
+    /** A macro k of 256 bytes, and calls of it that give, with what is behind them, so many bytes. */
+    private static final String K = "define(`k',`" + x(256) + "')";
+
+    private static String grown(int count) {
+        return "k`'".repeat(count / 256) + x(count % 256);
+    }
+
     private static void told(Bench bench, int taken) {
         bench.due("told(2)", bench.mill.told(2), taken);
     }
 
+    private static void fuelOfEachByte() {
+        String text = "define(`x',`a\nb$1')\nx(1,\n2)`q'\n#c\nx(dnl z\n3)";
+        int[] lines = {1, 14, 20, 25, 35, 38, 46};
+        for (int fuel = 1; fuel <= 55; fuel++) {
+            Bench bench = new Bench().about("fuel " + fuel);
+            bench.file("m", text);
+            boolean enough = fuel >= 52;
+            int line = 0;
+            for (int from : lines) {
+                line += fuel >= from ? 1 : 0;
+            }
+            bench.due("run", bench.mill.run(0, 1, fuel, 0), enough ? 0 : 31);
+            bench.due("told(1)", bench.mill.told(1), enough ? 0 : line);
+            bench.due("told(2)", bench.mill.told(2), enough ? 52 : fuel);
+            bench.due("out", bench.out(), enough ? "\na\nb1q\n#c\na\nb3" : "");
+        }
+    }
+
+    private static void fuelThatIsJustEnough() {
+        String[] texts = {"a", "ab1", "#c", "#c\n", "`'", "`a'", "dnl", "dnl x", "dnl\n", "len()", "(", "\n", "changequote(<<,>>)<<a>>", "`a", "len(", "len"};
+        int[] taken = {1, 3, 2, 3, 2, 3, 3, 5, 4, 6, 1, 1, 23, 2, 4, 3};
+        for (int i = 0; i < texts.length; i++) {
+            Bench bench = new Bench().about(texts[i]);
+            bench.file("m", texts[i]);
+            int error = texts[i].equals("`a") ? 32 : texts[i].equals("len(") ? 33 : 0;
+            bench.due("just enough", bench.mill.run(0, 1, taken[i], 0), error);
+            bench.due("told(2)", bench.mill.told(2), taken[i]);
+            if (taken[i] > 1) {
+                bench.dueError(bench.mill.run(0, 1, taken[i] - 1, 0), 31, 0, 1);
+                bench.due("told(2)", bench.mill.told(2), taken[i] - 1);
+            }
+            bench.due("stage 2 takes none", bench.mill.run(0, 2, 1, 0), texts[i].startsWith("#") ? 2 : 0);
+            bench.due("told(2)", bench.mill.told(2), 0);
+        }
+    }
+
+    private static void mostFuel() {
+        Bench endless = Bench.fails(1, "define(`a',`a')\na", 31, 2);
+        told(endless, 400000);
+        endless.due("stage 3, too", endless.mill.run(0, 3, 399999, 0), 31);
+        told(endless, 399999);
+    }
+
     private static void openCalls() {
         String f = "define(`f',`<$1>')define(`g',G)\n";
-        for (String inner : new String[] {"1", "define", "dnl", "g", "len(1)"}) {
+        for (String inner : new String[] {"1", "define", "dnl", "g", "len(1)", "`g'"}) {
             boolean isCall = inner.equals("g") || inner.equals("dnl") || inner.startsWith("len");
             int most = isCall ? 49 : 50;
             String tail = inner.equals("dnl") ? "\n" : "";
-            Bench fine = new Bench().about("open calls: " + inner);
-            fine.file("m", f + "f(".repeat(most) + inner + tail + ")".repeat(most));
-            fine.due("run", fine.mill.run(0, 1, 400000, 0), 0);
+            Bench.fine(1, f + "f(".repeat(most) + inner + tail + ")".repeat(most));
             Bench.fails(1, f + "f(".repeat(most + 1) + inner + tail + ")".repeat(most + 1), 34, 2);
         }
         told(Bench.fails(1, "define(`f',`')\n" + "f(".repeat(51), 34, 2), 15 + 100 + 1);
-        told(Bench.fails(1, "define(`f',`')\n" + "f(".repeat(50) + "\nf", 34, 3), 15 + 101 + 1);
-        // With no call open again all is as before.
+    }
+
+    private static void openCallsWithoutArguments() {
+        String f = "define(`f',`')\n";
+        told(Bench.fails(1, f + "f(".repeat(50) + "\nf", 34, 3), 15 + 101 + 1);
+        told(Bench.fails(1, f + "f(".repeat(50) + "\ndnl", 34, 3), 15 + 101 + 3);
+        told(Bench.fails(1, f + "f(".repeat(50) + "\n", 33, 3), 15 + 101);
+        Bench.gives(1, f + "f(".repeat(49) + "f" + ")".repeat(49), "\n");
+    }
+
+    private static void callsThatAreClosed() {
         String one = "f(".repeat(50) + ")".repeat(50);
-        Bench.gives(1, "define(`f',`')" + one + one, "");
+        Bench.gives(1, "define(`f',`')" + one + one + "f(f)" + one, "");
+        // What a call gives is read when it is open no more.
+        Bench.gives(1, "define(`f',`ifelse($1,0,end,`f(decr($1))')')f(200)", "end");
+    }
+
+    private static void deepBeforeRoom() {
+        String f = K + "define(`f',`')define(`ff',`')\nf(" + grown(16334) + "`'";
+        // 50 names and 16334 bytes are all that there is room for.
+        Bench.fails(1, f + "f(".repeat(49) + ")".repeat(49), 33, 2);
+        Bench.fails(1, f + "f(".repeat(49) + "f", 34, 2);
+        Bench.fails(1, f + "f(".repeat(48) + "f)", 33, 2);
+        Bench.fails(1, f + "f(".repeat(48) + "ff)", 40, 2);
     }
 
     private static void inputLeft() {
-        Bench.gives(1, "define(`b',`$1$1$1$1$1$1$1$1')b(" + x(4096) + ")", x(32768));
-        Bench.fails(1, "define(`b',`$1$1$1$1$1$1$1$1')\nb(" + x(4096) + ")z", 40, 2);
-        Bench.fails(1, "define(`b',`$1$1$1$1$1$1$1$1')\nb(" + x(4097) + ")", 40, 2);
-        Bench.fails(1, "define(`b',`" + "$*".repeat(8000) + "')\n\nb(" + x(9000) + ")", 40, 3);
-        Bench.fails(1, "define(`b',`" + "$@".repeat(8000) + "')\n\nb(" + ",".repeat(8000) + ")", 40, 3);
+        String b = K + "define(`b',`$1$1$1$1$1$1$1$2')";
+        Bench.gives(1, b + "b(" + grown(4096) + "," + grown(4096) + ")", x(32768));
+        Bench.fails(1, b + "\nb(" + grown(4096) + "," + grown(4097) + ")", 40, 2);
+        Bench.gives(1, b + "b(" + grown(4096) + "," + grown(4095) + ")z", x(32767) + "z");
+        Bench.fails(1, b + "\nb(" + grown(4096) + "," + grown(4096) + ")z\n", 40, 2);
+        Bench.fails(1, b + "\nb(" + grown(4096) + "," + grown(4095) + ")zz", 40, 2);
+        // All of the call has been taken when there is no room for what it gives.
+        int taken = K.length() + 30 + 1 + 2 + 16 * 259 + 1 + 16 * 259 + 1;
+        told(Bench.fails(1, b + "\nb(" + grown(4096) + "," + grown(4096) + ")z", 40, 2), taken);
+    }
+
+    private static void inputLeftOfGreatResults() {
+        Bench.fails(1, "define(`k',`" + x(1024) + "')define(`b',`" + "$*".repeat(4000) + "')\n\nb(" + "k`'".repeat(9) + ")", 40, 3);
+        Bench.fails(1, "define(`b',`" + "$@".repeat(4000) + "')\n\nb(" + ",".repeat(1500) + ")", 40, 3);
+        Bench.fails(1, K + "define(`b',`$0$0')define(`s',`shift(`$*',$@,$@,$@,$@)')\n\ns(" + grown(8000) + ")", 40, 3);
     }
 
     private static void bytesOfCalls() {
-        Bench.gives(1, "len(`" + x(16381) + "')", "16381");
-        told(Bench.fails(1, "\nlen(`" + x(16382) + "')", 40, 2), 1 + 4 + 16384);
-        Bench.gives(1, "define(`bbb',`y')len(`" + x(16378) + "'bbb)", "16379");
-        Bench.fails(1, "define(`bbb',`y')len(`" + x(16379) + "'bbb)", 40, 1);
-        Bench.gives(1, "len(`" + x(16375) + "'len(12))", "16376");
-        Bench.fails(1, "len(`" + x(16375) + "'len(123456))", 40, 1);
-        Bench.gives(1, "len(`" + x(16381) + "',)", "16381");
-        Bench.fails(1, "len(`" + x(16381) + "',\n\na)", 40, 3);
+        Bench.gives(1, K + "len(" + grown(16381) + ")", "16381");
+        told(Bench.fails(1, K + "\nlen(" + grown(16382) + ")", 40, 2), K.length() + 1 + 4 + 63 * 259 + 254);
+        Bench.gives(1, K + "len(" + grown(16381) + ", \n,)", "16381");
+        Bench.fails(1, K + "len(" + grown(16381) + ",\n\na)", 40, 3);
+        Bench.gives(1, K + "len(" + grown(16379) + "()))", "16381)");
+        Bench.fails(1, K + "len(" + grown(16380) + "\n())", 40, 2);
+    }
+
+    private static void bytesOfInnerCalls() {
+        String bbb = K + "define(`bbb',`y')";
+        Bench.gives(1, bbb + "len(" + grown(16378) + "`'bbb)", "16379");
+        Bench.fails(1, bbb + "len(" + grown(16379) + "`'bbb)", 40, 1);
+        Bench.gives(1, K + "len(" + grown(16376) + "`'len(12))", "16377");
+        told(Bench.fails(1, K + "len(" + grown(16377) + "`'len(12))", 40, 1), K.length() + 4 + 63 * 259 + 249 + 2 + 4 + 2);
+    }
+
+    private static void bytesOfClosedCalls() {
+        Bench.gives(1, K + "len(" + grown(16381) + ")len(" + grown(16381) + ")", "1638116381");
+        Bench.gives(1, K + "len(len(" + grown(16378) + ")" + grown(16376) + ")", "16381");
+        Bench.fails(1, K + "len(len(" + grown(16378) + ")" + grown(16377) + ")", 40, 1);
     }
 
     private static void numberOfArguments() {
         String b = "define(`b',`$#')\n";
         Bench.gives(1, b + "b(" + ",".repeat(8191) + ")", "\n8192");
         told(Bench.fails(1, b + "b(" + ",".repeat(8192) + ")", 40, 2), 17 + 2 + 8192);
+        String c = b + "define(`c',`" + ",".repeat(1000) + "')";
+        String most = "b(" + "c`'".repeat(8) + ",".repeat(191) + ")";
+        Bench.gives(1, c + most + most, "\n81928192");
+        Bench.fails(1, c + most + "b(" + "c`'".repeat(8) + ",".repeat(191) + "\n,)", 40, 3);
+    }
+
+    private static void numberOfArgumentsOfInnerCalls() {
+        String b = "define(`b',`$#')\n";
         Bench.gives(1, b + "b(" + ",".repeat(8190) + "b(1))", "\n8191");
         told(Bench.fails(1, b + "b(" + ",".repeat(8191) + "b(1))", 40, 2), 17 + 2 + 8191 + 2);
         Bench.gives(1, b + "b(" + ",".repeat(8191) + "b)", "\n8192");
+        Bench.gives(1, b + "b(" + ",".repeat(8189) + "b(1,))", "\n8190");
+        Bench.fails(1, b + "b(" + ",".repeat(8190) + "b(1,))", 40, 2);
     }
 
     private static String meanings(int count, String with) {
@@ -78,35 +197,93 @@ public final class FirstLimitsTest {
         String define = "define(`n#',`')";
         Bench.gives(1, meanings(300, define) + "z", "z");
         Bench.fails(1, meanings(300, define) + "\ndefine(`z',`')", 40, 2);
+        Bench.fails(1, meanings(300, define) + "\npushdef(`n3',`')", 40, 2);
         Bench.gives(1, meanings(300, define) + "define(`n3',`q')n3", "q");
-        Bench.fails(1, meanings(300, "pushdef(`n',`')") + "\npushdef(`n',`')", 40, 2);
-        Bench.fails(1, meanings(300, define) + "define(`len',`')", 40, 1);
-        Bench.gives(1, meanings(299, define) + "define(`len',`L')len", "L");
-        Bench.gives(1, meanings(300, define) + "undefine(`n7')define(`z',`Z')z", "Z");
-        Bench.gives(1, meanings(300, define) + "undefine(`len')popdef(`n9')pushdef(`z',`Z')z", "Z");
     }
 
+    private static void numberOfMeaningsOfOneName() {
+        String push = "pushdef(`n',`#')";
+        Bench.gives(1, meanings(300, push) + "n", "299");
+        Bench.fails(1, meanings(300, push) + "\npushdef(`n',`')", 40, 2);
+        Bench.gives(1, meanings(300, push) + "define(`n',`q')n popdef(`n')n", "q 298");
+        Bench.gives(1, meanings(300, push) + "undefine(`n')n " + meanings(300, "pushdef(`p',#)") + "p", "n 299");
+    }
+
+    private static void builtInMeaningsCountForNothing() {
+        String define = "define(`n#',`')";
+        Bench.fails(1, meanings(300, define) + "define(`len',`')", 40, 1);
+        Bench.gives(1, meanings(299, define) + "define(`len',`L')len", "L");
+        Bench.fails(1, meanings(299, define) + "define(`len',`L')\ndefine(`incr',`')", 40, 2);
+        Bench.gives(1, meanings(299, define) + "define(`len',`L')define(`len',`M')len", "M");
+        Bench.fails(1, meanings(300, define) + "undefine(`len',`incr')\ndefine(`z',`')", 40, 2);
+    }
+
+    private static void meaningsThatAreGone() {
+        String define = "define(`n#',`')";
+        Bench.gives(1, meanings(300, define) + "undefine(`n7')define(`z',`Z')z", "Z");
+        Bench.fails(1, meanings(300, define) + "undefine(`n7',`n7')define(`z',`Z')\ndefine(`y',`')", 40, 2);
+        Bench.gives(1, meanings(300, define) + "undefine(`len')popdef(`n9')pushdef(`z',`Z')z", "Z");
+        Bench.gives(1, meanings(300, define) + "popdef(`n9',`n8')pushdef(`z',`Z')pushdef(`z',`Y')z", "Y");
+    }
+
+    /** The macros k and a, whose names and texts have 16257 bytes. */
+    private static final String FILLED = K + "define(`a',`'" + grown(15999) + ")\n";
+
     private static void bytesOfMeanings() {
-        String a = "define(`a',`" + x(12000) + "')\n";
-        Bench.gives(1, a + "define(`b',`" + x(4382) + "')", "\n");
-        Bench.fails(1, a + "define(`b',`" + x(4383) + "')", 40, 2);
-        Bench.gives(1, a + "define(`b',`" + x(4000) + "')define(`b',`" + x(4382) + "')", "\n");
-        Bench.fails(1, a + "define(`b',`" + x(4000) + "')define(`b',`" + x(4383) + "')", 40, 2);
-        Bench.fails(1, a + "define(`b',`" + x(4000) + "')pushdef(`b',`" + x(382) + "')", 40, 2);
-        Bench.gives(1, a + "define(`b',`" + x(4000) + "')pushdef(`b',`" + x(381) + "')", "\n");
-        Bench.gives(1, a + "undefine(`a')define(`b',`" + x(14000) + "')z", "\nz");
-        Bench.gives(1, a + "define(`a',)define(`b',`" + x(14000) + "')z", "\nz");
+        Bench.gives(1, FILLED + "define(`b',`" + x(126) + "')len(b)", "\n126");
+        Bench.fails(1, FILLED + "define(`b',`" + x(127) + "')", 40, 2);
+        Bench.gives(1, FILLED + "define(`bb',`" + x(125) + "')len(bb)", "\n125");
+        Bench.fails(1, FILLED + "define(`bb',`" + x(126) + "')", 40, 2);
+        Bench.gives(1, FILLED + "define(`" + x(127) + "')z", "\nz");
+        Bench.fails(1, FILLED + "define(`" + x(128) + "')z", 40, 2);
+    }
+
+    private static void bytesOfMeaningsThatAreReplaced() {
+        String b = FILLED + "define(`b',`" + x(100) + "')";
+        Bench.gives(1, b + "define(`b',`" + x(126) + "')len(b)", "\n126");
+        Bench.fails(1, b + "define(`b',`" + x(127) + "')", 40, 2);
+        Bench.gives(1, b + "pushdef(`b',`" + x(25) + "')len(b)", "\n25");
+        Bench.fails(1, b + "pushdef(`b',`" + x(26) + "')", 40, 2);
+        Bench.gives(1, FILLED + "define(`len',`" + x(124) + "')z", "\nz");
+        Bench.fails(1, FILLED + "define(`len',`" + x(125) + "')z", 40, 2);
+    }
+
+    private static void bytesOfMeaningsThatAreGone() {
+        Bench.gives(1, FILLED + "undefine(`a')define(`b',`'" + grown(16126) + ")len(b)", "\n16126");
+        Bench.fails(1, FILLED + "undefine(`a')define(`b',`'" + grown(16127) + ")len(b)", 40, 2);
+        Bench.gives(1, FILLED + "define(`a',)define(`b',`'" + grown(16125) + ")len(b)", "\n16125");
+        Bench.fails(1, FILLED + "define(`a',)define(`b',`'" + grown(16126) + ")len(b)", 40, 2);
+        Bench.gives(1, FILLED + "popdef(`a')a`'define(`b',`'" + grown(16126) + ")len(b)", "\na16126");
     }
 
     private static void bytesOfDiversions() {
-        Bench.gives(1, x(32768), x(32768));
-        String a = "define(`a',`" + x(4096) + "')";
-        String three = "a`'a`'a`'";
-        Bench.gives(1, a + "divert(1)" + three + "divert(2)a`'a`'divert(-1)a a divert(0)" + three, x(32768));
-        Bench.fails(1, a + "divert(1)" + three + "divert(2)a`'a`'\ndivert(-1)a a divert(0)" + three, 40, 2);
-        Bench.gives(1, a + "divert(1)" + three + "divert(-1)undivert(1)divert(3)" + three + three + "a`'a`'", x(32768));
-        Bench.fails(1, a + "divert(1)" + three + "divert(-1)undivert(1)divert(3)" + three + three + "a`'a`'z", 40, 1);
-        Bench.gives(1, a + "divert(1)" + three + "divert(2)undivert(1)" + three + "a`'a`'", x(32768));
+        Bench.gives(1, K + grown(32768), x(32768));
+        told(Bench.fails(1, K + grown(32768) + "\n", 40, 2), K.length() + 128 * 259 + 1);
+        Bench.fails(1, K + "\n" + grown(32768) + "\n", 40, 2);
+        // A token goes there as a whole.
+        Bench.fails(1, K + grown(32767) + "\n`a\nb'", 40, 3);
+        Bench.gives(1, K + "divert(1)" + grown(10000) + "`'divert(9)" + grown(10000) + "`'divert(0)" + grown(12768), x(32768));
+        Bench.fails(1, K + "divert(1)" + grown(10000) + "`'divert(9)" + grown(10000) + "`'divert(0)" + grown(12768) + "\n\n", 40, 2);
+    }
+
+    private static void bytesOfNoDiversion() {
+        String much = K + grown(32000) + "`'divert(-1)" + grown(2000) + "`'";
+        Bench.gives(1, much + "divert(0)" + grown(768), x(32768));
+        Bench.fails(1, much + "divert(2)" + grown(768) + "\n", 40, 2);
+    }
+
+    private static void bytesThatAreUndiverted() {
+        String one = K + "divert(1)" + grown(32000) + "`'";
+        Bench.gives(1, one + "divert(2)undivert(1)" + grown(768), x(32768));
+        Bench.fails(1, one + "divert(2)undivert(1)" + grown(768) + "\n", 40, 2);
+        Bench.gives(1, one + "divert(-1)undivert(1)divert(3)" + grown(32768), x(32768));
+        Bench.fails(1, one + "divert(-1)undivert(1)divert(3)" + grown(32768) + "\n", 40, 2);
+    }
+
+    private static void nameBeforeRoom() {
+        String define = "define(`n#',`')";
+        Bench.fails(1, meanings(300, define) + "\ndefine(`1',`')", 35, 2);
+        Bench.fails(1, meanings(300, define) + "\npushdef(`',`')", 35, 2);
     }
 
     /** Texts come and go so often that their bytes must be gathered anew. */
@@ -116,5 +293,22 @@ public final class FirstLimitsTest {
         Bench.gives(1, loop + "loop(250)q r1 r2", x(400) + "1 <1> r2");
         String push = "define(`loop',`ifelse($1,0,,`pushdef(`q',`" + x(40) + "$1')popdef(`q')pushdef(`p',`$1')loop(decr($1))')')";
         Bench.gives(1, push + "loop(200)p popdef(`p')p q", "1 2 q");
+    }
+
+    /** A run that an error ended leaves nothing to the next one. */
+    private static void behindAnError() {
+        Bench bench = new Bench().about("runs behind errors");
+        String[] texts = {"define(`a',`(')divert(3)len(`x',", "`a", "define(`a',1)divert(2)b`'changequote([,])incr([x])", "define(`f',`f(`$1')')f(1", "a`'len(abc)dnl"};
+        int[] errors = {33, 32, 36, 33, 0};
+        for (int i = 0; i < texts.length; i++) {
+            bench.file("t" + i, texts[i]);
+        }
+        for (int i = 0; i < texts.length; i++) {
+            bench.due("run", bench.mill.run(i, 1, 1000, 0), errors[i]);
+            bench.due("size", bench.mill.size(), errors[i] == 0 ? 2 : 0);
+            bench.due("run", bench.mill.run(4, 1, 1000, 0), 0);
+            bench.due("out", bench.out(), "a3");
+            bench.due("told(2)", bench.mill.told(2), 15);
+        }
     }
 }

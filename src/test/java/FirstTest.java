@@ -13,7 +13,6 @@ public final class FirstTest {
         quotes();
         errors();
         linesOfErrors();
-        fuel();
         Bench.finish("FirstTest");
     }
 
@@ -216,25 +215,5 @@ public final class FirstTest {
         fails("define(`a',\n`\n`')\n", 32, 2);
         fails("dnl x\ndnl\nincr(\n\nx\n,2)", 36, 6);
         fails("incr(x)\n", 36, 1);
-    }
-
-    private static void fuel() {
-        String text = "define(`x',`a\nb$1')\nx(1,\n2)`q'\n#c\nx(dnl z\n3)";
-        int[] lines = {1, 14, 20, 25, 35, 38, 46};
-        for (int fuel = 1; fuel <= 55; fuel++) {
-            Bench bench = new Bench().about("fuel " + fuel);
-            bench.file("m", text);
-            boolean enough = fuel >= 52;
-            int line = 0;
-            for (int from : lines) {
-                line += fuel >= from ? 1 : 0;
-            }
-            bench.due("run", bench.mill.run(0, 1, fuel, 0), enough ? 0 : 31);
-            bench.due("told(1)", bench.mill.told(1), enough ? 0 : line);
-            bench.due("told(2)", bench.mill.told(2), enough ? 52 : fuel);
-            bench.due("out", bench.out(), enough ? "\na\nb1q\n#c\na\nb3" : "");
-        }
-        Bench endless = Bench.fails(1, "define(`a',`a')\na", 31, 2);
-        endless.due("told(2)", endless.mill.told(2), 400000);
     }
 }
