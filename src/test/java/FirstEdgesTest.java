@@ -126,6 +126,8 @@ public final class FirstEdgesTest {
         gives(quotes + "<<<a>>>", "\n<a>");
         gives("changequote(<,<<)<a<<", "a");
         gives("changequote(!,!)!a!!b!", "ab");
+        gives("changequote(<,>>)<a<>>b>>", "a<>>b");
+        gives("changequote([,])define([a],1)define([f],[$@])changequote(<=+,+-!)f(<=+a+-!,b) shift(x,<=+a+-!,<=+b+-!)", "a,b a,b");
     }
 
     private static void commentsToTheEnd() {
@@ -202,12 +204,28 @@ public final class FirstEdgesTest {
         gives("define(`f',``$$1$$'')f(x)", "$x$$");
         gives("define(`f',``$9$8'')f(1,2,3,4,5,6,7,8,9,10)f(1,2,3,4,5,6,7,8)", "988");
         gives("define(`f',``<$#$*$@$1$9>'')f|f()|f(,)", "<0>|<1`'>|<2,`',`'>");
+        // Behind a text's end lies what a run before left there.
+        Bench bench = new Bench().about("a mark at the end of a text");
+        bench.file("m", "define(`f',`x$1')f(q)");
+        bench.file("n", "define(`f',`x$')f(q)");
+        for (int i = 0; i < 4; i++) {
+            bench.due("run", bench.mill.run(i % 2, 1, 1000, 0), 0);
+            bench.due("out", bench.out(), i % 2 == 0 ? "xq" : "x$");
+        }
     }
 
     private static void namesThatAreDefined() {
         for (String word : new String[] {"define", "pushdef"}) {
             for (String name : new String[] {"_", "a", "Z", "A0", "_9", "n".repeat(300), "define", "dnl"}) {
                 gives(word + "(`" + name + "',`v')" + name, "v");
+            }
+        }
+        // What is defined takes the place of a built-in meaning.
+        for (String[] names : new String[][] {WITH_PARENTHESIS, WITHOUT}) {
+            for (String name : names) {
+                if (!name.equals("popdef")) {
+                    gives("define(`" + name + "',`x')" + name + " popdef(`" + name + "')" + name + "(a)", "x " + name + "(a)");
+                }
             }
         }
     }
@@ -357,6 +375,8 @@ public final class FirstEdgesTest {
         gives("divert(1)a`'divert(-1)undivert(1)divert(0)undivert(1)c", "c");
         gives("divert(1)a`'divert(2)b`'divert(-1)undivert`'divert(1)d`'divert(0)c", "cd");
         gives("divert(-1)a`'len(b)", "");
+        gives("a`'divert(1)b`'undivert(0)divert(0)c", "acb");
+        gives("a`'divert(1)b`'undivert`'divert(0)c", "acb");
     }
 
     private static void quoteLengths() {

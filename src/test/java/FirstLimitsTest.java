@@ -27,7 +27,10 @@ public final class FirstLimitsTest {
         bytesThatAreUndiverted();
         nameBeforeRoom();
         manyMeanings();
+        movedMeanings();
+        manyNames();
         behindAnError();
+        roomBehindAnError();
         Bench.finish("FirstLimitsTest");
     }
 
@@ -141,6 +144,15 @@ public final class FirstLimitsTest {
         Bench.fails(1, "define(`k',`" + x(1024) + "')define(`b',`" + "$*".repeat(4000) + "')\n\nb(" + "k`'".repeat(9) + ")", 40, 3);
         Bench.fails(1, "define(`b',`" + "$@".repeat(4000) + "')\n\nb(" + ",".repeat(1500) + ")", 40, 3);
         Bench.fails(1, K + "define(`b',`$0$0')define(`s',`shift(`$*',$@,$@,$@,$@)')\n\ns(" + grown(8000) + ")", 40, 3);
+        // The first byte that is too much comes when there is just no room left.
+        Bench.gives(1, K + "define(`b',`" + "$1".repeat(8) + "$2')b(" + grown(4096) + ",`')", x(32768));
+        Bench.fails(1, K + "define(`b',`" + "$1".repeat(8) + "y')b(" + grown(4096) + ",`')", 40, 1);
+        Bench.fails(1, K + "define(`b',`" + "$1".repeat(8) + "$#')b(" + grown(4096) + ",`')", 40, 1);
+        Bench.gives(1, K + "define(`b',`$1$1$1$*')b(" + grown(8000) + "," + grown(767) + ")", x(32000) + "," + x(767));
+        Bench.fails(1, K + "define(`b',`$1$1$1$*')\nb(" + grown(8000) + "," + grown(767) + ",)", 40, 2);
+        Bench.gives(1, K + "define(`b',`$1$1$1$@')b(" + grown(8000) + "," + grown(763) + ")", x(32000) + "," + x(763));
+        Bench.fails(1, K + "define(`b',`$1$1$1$@')\nb(" + grown(8000) + "," + grown(764) + ")", 40, 2);
+        Bench.fails(1, K + "define(`b',`$1$1$1$@')\nb(" + grown(8000) + "," + grown(763) + ",)", 40, 2);
     }
 
     private static void bytesOfCalls() {
@@ -246,6 +258,9 @@ public final class FirstLimitsTest {
         Bench.fails(1, b + "pushdef(`b',`" + x(26) + "')", 40, 2);
         Bench.gives(1, FILLED + "define(`len',`" + x(124) + "')z", "\nz");
         Bench.fails(1, FILLED + "define(`len',`" + x(125) + "')z", 40, 2);
+        // A long text takes the place of another one, again and again.
+        String again = "define(`a',`'" + grown(15990) + "`'yy)substr(a,15985) len(a) define(`a',`'" + grown(15991) + "`'z)substr(a,15985) len(a) ";
+        Bench.gives(1, FILLED + again + again, "\n" + "xxxxxyy 15992 xxxxxxz 15992 ".repeat(2));
     }
 
     private static void bytesOfMeaningsThatAreGone() {
@@ -278,6 +293,10 @@ public final class FirstLimitsTest {
         Bench.fails(1, one + "divert(2)undivert(1)" + grown(768) + "\n", 40, 2);
         Bench.gives(1, one + "divert(-1)undivert(1)divert(3)" + grown(32768), x(32768));
         Bench.fails(1, one + "divert(-1)undivert(1)divert(3)" + grown(32768) + "\n", 40, 2);
+        // All that was let go can be used again, and no more.
+        String three = K + "divert(1)" + grown(10000) + "`'divert(2)" + grown(10000) + "`'divert(3)" + grown(10000) + "`'divert(-1)undivert(2)undivert(1,3)";
+        Bench.gives(1, three + "divert(3)" + grown(16384) + "`'divert(1)" + grown(16383) + "`'y", x(16383) + "y" + x(16384));
+        Bench.fails(1, three + "divert(3)" + grown(16384) + "`'divert(1)" + grown(16384) + "`'y", 40, 1);
     }
 
     private static void nameBeforeRoom() {
@@ -295,20 +314,78 @@ public final class FirstLimitsTest {
         Bench.gives(1, push + "loop(200)p popdef(`p')p q", "1 2 q");
     }
 
+    /** Texts that stay lie between texts that go, so that they must be moved together. */
+    private static void movedMeanings() {
+        StringBuilder text = new StringBuilder("define(`big',`$1" + x(900) + "$1')");
+        StringBuilder want = new StringBuilder();
+        for (int round = 0; round < 3; round++) {
+            for (int i = 0; i < 25; i++) {
+                text.append("define(`t',`'big(").append(i).append("))define(`n").append(i).append("',`<").append(i).append(":$1:").append(round).append(">')");
+                if (i % 3 == 0) {
+                    text.append("pushdef(`p',`p").append(i).append("')popdef(`t')");
+                }
+            }
+        }
+        for (int i = 0; i < 25; i++) {
+            text.append("n").append(i).append("(a)");
+            want.append("<").append(i).append(":a:2>");
+        }
+        text.append("len(t)p popdef(`p')p undefine(`p')p incr(1)");
+        want.append("1p24 p21 p 2");
+        Bench.gives(1, text.toString(), want.toString());
+    }
+
+    /** So many names that some of them lie in the same chain. */
+    private static void manyNames() {
+        StringBuilder text = new StringBuilder(meanings(180, "define(`n#',#,)"));
+        StringBuilder want = new StringBuilder();
+        for (int i = 0; i < 180; i += 2) {
+            text.append(i % 4 == 0 ? "undefine(`n" : "popdef(`n").append(i).append("')");
+        }
+        for (int i = 0; i < 180; i++) {
+            text.append("n").append(i).append(" ");
+            want.append(i % 2 == 0 ? "n" : "").append(i).append(" ");
+        }
+        Bench.gives(1, text.toString(), want.toString());
+    }
+
     /** A run that an error ended leaves nothing to the next one. */
     private static void behindAnError() {
         Bench bench = new Bench().about("runs behind errors");
-        String[] texts = {"define(`a',`(')divert(3)len(`x',", "`a", "define(`a',1)divert(2)b`'changequote([,])incr([x])", "define(`f',`f(`$1')')f(1", "a`'len(abc)dnl"};
-        int[] errors = {33, 32, 36, 33, 0};
+        String[] texts = {"define(`a',`(')divert(3)len(`x',", "`a", "define(`a',1)divert(2)b`'changequote([,])incr([x])", "define(`f',`f(`$1')')f(1", "len((((", "a`'len(abc)dnl"};
+        int[] errors = {33, 32, 36, 33, 33, 0};
         for (int i = 0; i < texts.length; i++) {
             bench.file("t" + i, texts[i]);
         }
         for (int i = 0; i < texts.length; i++) {
             bench.due("run", bench.mill.run(i, 1, 1000, 0), errors[i]);
             bench.due("size", bench.mill.size(), errors[i] == 0 ? 2 : 0);
-            bench.due("run", bench.mill.run(4, 1, 1000, 0), 0);
+            bench.due("run", bench.mill.run(5, 1, 1000, 0), 0);
             bench.due("out", bench.out(), "a3");
             bench.due("told(2)", bench.mill.told(2), 15);
+        }
+    }
+
+    private static void roomBehindAnError() {
+        Bench bench = new Bench().about("room behind errors");
+        String c = "define(`b',`$#')define(`c',`" + ",".repeat(600) + "')b(" + "c`'".repeat(13) + ",".repeat(391);
+        String[] texts = {K + "len(" + grown(16381), c, "define(`f',`')" + "f(".repeat(50), K + "divert(1)" + grown(32768) + "`'len("};
+        String[] ends = {")", ")", ")".repeat(50), ")"};
+        String[] want = {"16381", "8192", ""};
+        for (int i = 0; i < texts.length; i++) {
+            bench.file("e" + i, texts[i]);
+            bench.file("f" + i, i < 3 ? texts[i] + ends[i] : K + grown(32768));
+        }
+        for (int i = 0; i < texts.length; i++) {
+            bench.due("run", bench.mill.run(2 * i, 1, 400000, 0), 33);
+            for (int k = 0; k < texts.length; k++) {
+                bench.due("run", bench.mill.run(2 * k + 1, 1, 400000, 0), 0);
+                if (k < 3) {
+                    bench.due("out", bench.out(), want[k]);
+                } else {
+                    bench.due("size", bench.mill.size(), 32768);
+                }
+            }
         }
     }
 }

@@ -9,6 +9,8 @@ public final class SecondEdgesTest {
         commentsWithoutEnd();
         quotesInOneLine();
         numbersAndPoints();
+        endsOfFilesEndTokens();
+        endsOfPastedTokens();
         signs();
         directiveNames();
         parametersOfMacros();
@@ -31,7 +33,7 @@ public final class SecondEdgesTest {
         leastValue();
         kindsOfValues();
         divisionsThatAreNeeded();
-        divisionAfterForm();
+        conditionsThatAreNone();
         balance();
         endsOfFiles();
         partsThatDontCount();
@@ -178,6 +180,8 @@ public final class SecondEdgesTest {
         gives("' // x ' y", "' // x ' y\n");
         gives("L \"a\" l\"b\" xL\"c\"", "L \"a\" l \"b\" xL \"c\"\n");
         gives("'a /*\n'*/ b'", "' a b '\n");
+        // A 92 that comes before an LF when another one went doesn't take that along.
+        gives("\"a\\\\\n\nb\"", "\" a \\\nb \"\n");
     }
 
     private static void numbersAndPoints() {
@@ -186,6 +190,55 @@ public final class SecondEdgesTest {
         gives("0x1e+1 1+1 1-1 .5e-3.x", "0x1e+1 1 + 1 1 - 1 .5e-3.x\n");
         gives(". .. ... .... ..... .a ..5 ...5 ....5", ". . . ... ... . ... . . . a . .5 ... 5 ... .5\n");
         gives("1'2' 1\"2\" 1L'x'", "1 '2' 1 \"2\" 1L 'x'\n");
+    }
+
+    /** A file's end ends its last token, whatever lies behind it. */
+    private static void endsOfFilesEndTokens() {
+        String[][] pairs = {{"L", "'x'"}, {"L", "\"x\""}, {".", "5"}, {"+", "+"}, {"<", "<="}, {"<<", "="}, {"-", ">"}, {"/", "/ x"}, {"/", "="}, {"a #", "x #"}, {"'", "'"}, {"\"", "\""}, {"a", "b"}, {"1", "2"},
+            {"1e", "+"}, {"\\", "n"}, {"&", "&"}, {".", "..."}, {"1.", "5"}, {"a", "1"}};
+        for (String[] pair : pairs) {
+            Bench bench = new Bench().about(pair[0] + " and " + pair[1]);
+            bench.file("m", "#include \"b\"\n#include \"c\"");
+            bench.file("b", pair[0]);
+            bench.file("c", pair[1]);
+            bench.due("run", bench.mill.run(0, 2, 1, 1), 0);
+            bench.due("out", bench.out(), pair[0] + "\n" + pair[1] + "\n");
+        }
+        Bench bench = new Bench().about("points");
+        bench.file("m", "#include \"b\"\n#include \"c\"");
+        bench.file("b", "a..");
+        bench.file("c", ".b");
+        bench.due("run", bench.mill.run(0, 2, 1, 1), 0);
+        bench.due("out", bench.out(), "a . .\n. b\n");
+        bench = new Bench().about("quotes, a comment and a splice at a file's end");
+        bench.file("b", "a\\");
+        bench.file("c", "\nb");
+        bench.file("d", "\"x\\");
+        bench.file("e", "\" /");
+        bench.file("f", "* x */ y");
+        String[] want = {"a \\\n", "b\n", "\" x \\\n", "\" /\n", "* x * / y\n"};
+        for (int i = 0; i < want.length; i++) {
+            bench.due("run", bench.mill.run(i, 2, 1, 1), 0);
+            bench.due("out", bench.out(), want[i]);
+        }
+        bench.file("m", "#include \"b\"\n#include \"c\"\n#include \"d\"\n#include \"e\"\n#include \"f\"");
+        bench.due("run", bench.mill.run(5, 2, 1, 1), 0);
+        bench.due("out", bench.out(), String.join("", want));
+    }
+
+    /** What is pasted ends where it ends, whatever a run before left behind it. */
+    private static void endsOfPastedTokens() {
+        String[][] pairs = {{"<<,=", "<,<", "<<"}, {"ab,c", "a,b", "ab"}, {"12,3", "1,2", "12"}, {"1e,+", "1,e", "1e"}, {"L,\"a\"", "x,L", "xL"}, {"xL,y", "L,\"a\"", "L\"a\""}, {"-,-", "a,b", "ab"}};
+        for (String[] pair : pairs) {
+            Bench bench = new Bench().about(pair[0] + " and " + pair[1]);
+            bench.file("m", "#define j(x,y) x##y\nj(" + pair[0] + ")");
+            bench.file("n", "#define j(x,y) x##y\nj(" + pair[1] + ")");
+            for (int i = 0; i < 2; i++) {
+                bench.due("run", bench.mill.run(0, 2, 1, 0), 0);
+                bench.due("run", bench.mill.run(1, 2, 1, 0), 0);
+                bench.due("out", bench.out(), pair[2] + "\n");
+            }
+        }
     }
 
     private static void signs() {
@@ -543,7 +596,10 @@ public final class SecondEdgesTest {
         }
     }
 
-    private static void divisionAfterForm() {
+    private static void conditionsThatAreNone() {
+        for (String text : new String[] {"1 :", "1 ? 2 : 3 :", "(1 :)", "1 ? (2 :) : 3", ": 1", "1 ? : 2", "1 ? 2", "1 ? 2 : ", "(1 ? 2) : 3", "1 ? (2 : 3)", "1 ?", "?", ":", "1 ? 2 ? 3 : 4", "1 )(", "1 ) + (2"}) {
+            isNone(text);
+        }
         for (String text : new String[] {"1/0 +", "(1/0", "1/0)", "1/0 1", "1/0 ? 1", "1/0 + 08", "1/0 + ''", "1/0 " + "- ".repeat(62) + "1"}) {
             isNone(text);
         }

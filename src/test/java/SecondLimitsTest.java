@@ -3,6 +3,7 @@ public final class SecondLimitsTest {
     public static void main(String[] args) {
         substitutedTokens();
         substitutedTokensOfArguments();
+        substitutedTokensOfALongArgument();
         substitutedTokensOfEachPlace();
         setsOfNames();
         setsThatComeAgain();
@@ -71,6 +72,7 @@ public final class SecondLimitsTest {
         Bench bench = new Bench().about(text);
         bench.file("m", text);
         bench.file("b", other);
+        bench.mill.run(0, 2, 1, 20);
         bench.due("run", bench.mill.run(0, 2, 1, 20), error);
         bench.due("told(0)", bench.mill.told(0), file);
         bench.due("told(1)", bench.mill.told(1), line);
@@ -103,6 +105,18 @@ public final class SecondLimitsTest {
         // The macro whose tokens are too many is that of the argument, or the one that it is put to.
         substituted(full(call + "#if T" + "+T".repeat(19) + "\\\n+ f(\\\nT)\nx\n#endif", 26), 40000);
         substituted(full(call + "#if T" + "+T".repeat(18) + "\\\n+ f(\\\nT)\nx\n#endif", 25), 40000);
+    }
+
+    /** Before an argument is replaced to its end its tokens are there once more. */
+    private static void substitutedTokensOfALongArgument() {
+        String start = ONES + "#define f(x) x\nf(" + ";".repeat(7000) + "A ".repeat(20) + "T ".repeat(20);
+        Bench bench = full(start + "\n\nT)", 6);
+        substituted(bench, 40000);
+        bench.due("told(3)", bench.mill.told(3), 0);
+        substituted(full(start + "\n\n)", 4), 40000);
+        // Two thirds of them are put once more, and that is all that there is room for.
+        String half = ONES + "#define f(x) x\n#define e(x)\ne(f(" + ";".repeat(6000);
+        substituted(Bench.gives(2, half + ")) f(;;)", "; ;\n"), 2);
     }
 
     private static void substitutedTokensOfEachPlace() {
@@ -435,6 +449,8 @@ public final class SecondLimitsTest {
     }
 
     private static void spellingsLeaveWhatIsThere() {
+        Bench truth = behindSpellings(named(LEFT) + "#if defined a && !defined b\nx\n#endif", 0, 0);
+        truth.due("out", truth.out(), "x\n");
         Bench macros = behindSpellings("#define g(x) x\n#define q " + "y".repeat(LEFT), 21, 21);
         macros.due("told(5)", macros.mill.told(5), 2);
         macros.due("parameters", macros.parameters("q"), MacroMill.BAD);
