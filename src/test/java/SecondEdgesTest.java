@@ -10,9 +10,13 @@ public final class SecondEdgesTest {
         quotesInOneLine();
         numbersAndPoints();
         endsOfFilesEndTokens();
+        endsOfFilesEndComments();
+        kindsOfTokensThatAreMade();
+        bytesOfTitles();
         endsOfPastedTokens();
         signs();
         directiveNames();
+        tokensOfLongerLines();
         parametersOfMacros();
         hashes();
         definedAgain();
@@ -46,6 +50,7 @@ public final class SecondEdgesTest {
         argumentsWithoutEnd();
         emptyArguments();
         pastedTokens();
+        setsOfPastedTokens();
         theOut();
         filesAndLinesOfErrors();
         leastNumber();
@@ -226,6 +231,42 @@ public final class SecondEdgesTest {
         bench.due("out", bench.out(), String.join("", want));
     }
 
+    /** A comment's end is not what a run before left behind the file. */
+    private static void endsOfFilesEndComments() {
+        Bench bench = new Bench().about("a comment without an end");
+        bench.file("m", "/* */a");
+        bench.file("n", "/* *");
+        for (int i = 0; i < 2; i++) {
+            bench.due("run", bench.mill.run(0, 2, 1, 0), 0);
+            bench.due("out", bench.out(), "a\n");
+            bench.dueError(bench.mill.run(1, 2, 1, 0), 1, 1, 1);
+        }
+    }
+
+    /** What comes of __FILE__ and of pasting is a token of its own kind. */
+    private static void kindsOfTokensThatAreMade() {
+        String macros = "#define s(x) #x\n#define t(x) s(x)\n#define j(x,y) x##y\n";
+        gives(macros + "t(__FILE__) t(j(L,\"q\")) t(j(L,'\\0')) t(-__LINE__)", "\"\\\"m\\\"\" \"L\\\"q\\\"\" \"L'\\\\0'\" \"-4\"\n");
+        gives(macros + "#define ab <\n#define x1 >\nj(a,b) j(x,1) j(a b,b c)", "< > a bb c\n");
+        gives(macros + "#if __LINE__ == 4 && j(1,2) == 12 && j(0x,1) == 1 && !j(a,b)\nx\n#endif", "x\n");
+    }
+
+    /** A title may have any bytes. */
+    private static void bytesOfTitles() {
+        Bench bench = new Bench().about("bytes of titles");
+        bench.file("a\0b\n\"\\\u00ff", "__FILE__\n#ifndef A\n#define A\n#include __FILE__\n#endif");
+        bench.file("c\0", "__FILE__\n#ifndef A\n#define A\n#include __FILE__\n#endif");
+        bench.due("run", bench.mill.run(0, 2, 1, 1), 9);
+        bench.due("run", bench.mill.run(1, 2, 1, 1), 0);
+        bench.due("out", bench.out(), "\"c\0\"\n\"c\0\"\n");
+        bench.file("d", "#line 7 __FILE__\n__LINE__ __FILE__");
+        bench.due("run", bench.mill.run(2, 2, 1, 1), 0);
+        bench.due("out", bench.out(), "7 \"d\"\n");
+        bench.file("e\n\"", "__FILE__");
+        bench.due("run", bench.mill.run(3, 2, 1, 1), 0);
+        bench.due("out", bench.out(), "\"e\n\\\"\"\n");
+    }
+
     /** What is pasted ends where it ends, whatever a run before left behind it. */
     private static void endsOfPastedTokens() {
         String[][] pairs = {{"<<,=", "<,<", "<<"}, {"ab,c", "a,b", "ab"}, {"12,3", "1,2", "12"}, {"1e,+", "1,e", "1e"}, {"L,\"a\"", "x,L", "xL"}, {"xL,y", "L,\"a\"", "L\"a\""}, {"-,-", "a,b", "ab"}};
@@ -258,7 +299,8 @@ public final class SecondEdgesTest {
 
     private static void directiveNames() {
         gives("#\n # \n#/**/\n\\\n#\nx", "x\n");
-        for (String bad : new String[] {"1", "\"define\"", "(", "#", "foo", "Define", "defined", "DEFINE", "define1", "els", "endifs", "L'x'", "'"}) {
+        for (String bad : new String[] {"1", "\"define\"", "(", "#", "foo", "Define", "defined", "DEFINE", "define1", "els", "endifs", "L'x'", "'", "fine", "e", "f", "def", "dif", "lse", "ine", "lude", "clude", "defin", "i", "ifd", "ifde", "ifnde", "lin", "err", "prag", "und", "undefine", "iff",
+            "ifelse"}) {
             fails("\n# " + bad + "\n", 2, 2);
         }
         gives("## define A\n@#\nx # y", "## define A\n@ #\nx # y\n");
@@ -266,6 +308,24 @@ public final class SecondEdgesTest {
         fails("#error", 16, 1);
         fails("x\n\n#error a b '\n", 16, 3);
         gives("#define EMPTY\nEMPTY # define A\nA", "# define A\nA\n");
+    }
+
+    /** What a longer line before had is no token of this one. */
+    private static void tokensOfLongerLines() {
+        String[] directives = {"undef", "define", "ifdef", "ifndef", "include", "line", "if", "if defined", "if defined (", "if defined (A", "define f(", "define f(x", "define f(x,", "define A", "define f()",
+            "define f(x)", "define f(x) #", "include <t", "", "error", "pragma", "undef A", "line 5", "define f(x) x", "include \"no\"", "define A 1 ##"};
+        int[] errors = {3, 3, 3, 3, 8, 15, 11, 11, 11, 11, 4, 4, 4, 0, 0, 0, 5, 8, 0, 16, 0, 0, 0, 0, 9, 5};
+        String[] before = {"#pragma " + "A ".repeat(12), "#pragma " + ") ".repeat(12), "#pragma " + "( ".repeat(12), "#pragma " + "\"t\" ".repeat(12), "#pragma " + "5 ".repeat(12), "#pragma " + "## ".repeat(12),
+            "#pragma " + "# ".repeat(12), "#pragma " + "__VA_ARGS__ ".repeat(12), "#pragma " + ", ".repeat(12), "#pragma " + "> ".repeat(12), "#define g(x) " + "x ".repeat(12), "#pragma " + "A ) ".repeat(12),
+            "#pragma " + ") A ".repeat(12)};
+        for (String line : before) {
+            for (int i = 0; i < directives.length; i++) {
+                Bench bench = new Bench().about(line + " and " + directives[i]);
+                bench.file("m", line + "\n#" + directives[i] + "\n");
+                bench.due("run", bench.mill.run(0, 2, 1, 0), errors[i]);
+                bench.due("told(1)", bench.mill.told(1), errors[i] == 0 ? 0 : 2);
+            }
+        }
     }
 
     private static void parametersOfMacros() {
@@ -449,7 +509,7 @@ public final class SecondEdgesTest {
             "0x8000000000000000l > 0"}) {
             holds(text);
         }
-        for (String text : new String[] {"0x", "0X", "0xg", "0x1g", "x1", "0x10000000000000000", "0xfffffffffffffffff", "0x10000000000000000u", "0xu", "0x.1", "0x1.0", "00x1"}) {
+        for (String text : new String[] {"0x", "0X", "0xg", "0x1g", "x1", "0x10000000000000000", "0xfffffffffffffffff", "0x10000000000000000u", "0xu", "0x.1", "0x1.0", "0x1.", "00x1"}) {
             if (text.equals("x1")) {
                 gives("#if " + text + "\n#else\n1\n#endif", "1\n");
             } else {
@@ -463,7 +523,7 @@ public final class SecondEdgesTest {
             "01000000000000000000000 == 9223372036854775808u", "01000000000000000000000 > 0", "01777777777777777777777 == -1", "00000000000000000000000000000001 == 1", "0u == 0", "0l == 0"}) {
             holds(text);
         }
-        for (String text : new String[] {"08", "09", "018", "0778", "02000000000000000000000", "07777777777777777777777", "02000000000000000000000u", "0a", "0.1", "0e1"}) {
+        for (String text : new String[] {"08", "09", "018", "0778", "02000000000000000000000", "07777777777777777777777", "02000000000000000000000u", "0a", "0.1", "01.", "0.", "0e1"}) {
             isNone(text);
         }
     }
@@ -492,6 +552,23 @@ public final class SecondEdgesTest {
         for (String text : new String[] {"1x", "1f", "1lx", "1ux", "1_", "1ulx", "0u0"}) {
             isNone(text);
         }
+        for (int b = 0; b < 256; b++) {
+            if ((isLetter(b) || b == '.') && "uUlL".indexOf(b) < 0) {
+                isNone("1" + (char) b);
+                isNone("1u" + (char) b);
+                isNone("1l" + (char) b);
+                if (b != 'x' && b != 'X') {
+                    isNone("0" + (char) b);
+                }
+            }
+        }
+        // A macro's number ends where it ends, whatever name was made behind it.
+        for (String name : new String[] {"u", "l", "ll", "x1", "X", "ul", "e1"}) {
+            gives("#define N 1\n#define " + name + "\n#if N - 2 < 0\nx\n#endif", "x\n");
+            gives("#define N 0\n#define " + name + "\n#if N - 1 < 0\nx\n#endif", "x\n");
+            gives("#define N 1l\n#define " + name + "\n#if N - 2 < 0\nx\n#endif", "x\n");
+            gives("#define N 1u\n#define " + name + "\n#if N - 2 > 0\nx\n#endif", "x\n");
+        }
     }
 
     private static void characters() {
@@ -505,6 +582,11 @@ public final class SecondEdgesTest {
         }
         holds("-'a' < 0");
         holds("'\u00ff' > '\u007f'");
+        holds("'\\n' - 11 < 0");
+        holds("'\u00ff' - 256 < 0");
+        for (String text : new String[] {"1 'ab'", "1 ''", "1 L'a'", "1 '\\x'", "'ab' 1", "1 \"a\"", "1 L\"a\"", "\"a\" 1", "1 ...", "1 <<=", "... 1"}) {
+            isNone(text);
+        }
     }
 
     private static void escapes() {
@@ -759,6 +841,10 @@ public final class SecondEdgesTest {
         String macros = "#define s(x) #x\n#define j(x,y) x##y\n#define k(x) a##x##b\n#define e(x) [x]\n#define l(x) x ## 1\n#define r(x) 1 ## x\n";
         gives(macros + "s() j(,) k() e() l() r()", "\"\" ab [ ] 1 1\n");
         gives(macros + "j(a,) j(,b) s( ) e( )", "a b \"\" [ ]\n");
+        gives("#define a A\n#define h(x) x ## ## a\nh()", "A\n");
+        // A parameter behind ## that went is not replaced by itself, be it the first one or another one.
+        gives("#define g(x) <x>\n#define L g (\n#define f(a,b) b ## a 1)\n#define e(a,b) a ## b 1)\nf(L,) e(,L)", "< 1 > < 1 >\n");
+        fails("#define g(x) <x>\n#define L g (\n#define f(a) a 1)\nf(L)", 18, 4);
         gives("#define h(x) x ## ## a\n#define g(x,y,z) x ## y ## z\nh() g(,,c) g(,b,) g(a,,) g(,b,c) g(a,,c)", "a c b a bc ac\n");
     }
 
@@ -773,6 +859,14 @@ public final class SecondEdgesTest {
             "-,1", "a,.", "x,'"}) {
             fails(j + "\nj(" + pair + ")", 19, 3);
         }
+    }
+
+    /** A pasted token's set is what both sides have in common. */
+    private static void setsOfPastedTokens() {
+        gives("#define ab a\n#define j(x) x##b\n#define g(x) j(x)\ng(ab)", "a\n");
+        gives("#define ab a\n#define ba a\n#define j(x,y) x##y\n#define b(x) j(x,b)\n#define g(x) j(x,x)\n#define aa +\nb(ab) g(ab) g(ba)", "a + +\n");
+        gives("#define j(x,y) x##y\n#define AB j(A,B) AB\nAB", "AB AB\n");
+        gives("#define A a ## B\n#define aB A aC\n#define aC A aB\nA", "A A aB\n");
     }
 
     private static void theOut() {

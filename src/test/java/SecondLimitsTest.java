@@ -11,6 +11,7 @@ public final class SecondLimitsTest {
         setsOfPasting();
         numberOfNames();
         namesThatWereMacros();
+        namesThatHideThemselves();
         macroTokens();
         macroParameters();
         macrosThatAreGone();
@@ -213,6 +214,22 @@ public final class SecondLimitsTest {
         fine(names(400) + "#undef m\n#ifdef p\n#endif\n#if defined q\n#endif\nr");
     }
 
+    /** All of 400 names hide themselves, the last ones as the first ones. */
+    private static void namesThatHideThemselves() {
+        StringBuilder text = new StringBuilder();
+        StringBuilder want = new StringBuilder();
+        for (int i = 0; i < 400; i++) {
+            text.append("#define n").append(i).append(" n").append(i).append("\n");
+            want.append(i > 0 ? " n" : "n").append(i);
+        }
+        Bench.gives(2, text.append(want).toString(), want.append("\n").toString());
+        String filled = names(394);
+        Bench.gives(2, filled + "#define f(x) x g\n#define g(x) x f\nf(1)(2)(3)(4)", "1 2 3 4 f\n");
+        Bench.gives(2, "#define f(x) x g\n" + filled + "#define g(x) x f\nf(1)(2)(3)(4)", "1 2 3 4 f\n");
+        Bench.gives(2, "#define f(x) x f\n" + filled + "#define g f(1)\n#define h g(2)\nf(1)(2) g(2) h", "1 f ( 2 ) 1 f ( 2 ) 1 f ( 2 )\n");
+        Bench.gives(2, filled + "#define A B\n#define B C x\n#define C A y\nA B C", "A y x B y x C x y\n");
+    }
+
     private static void macroTokens() {
         fine("#define A " + "(".repeat(4000) + "\n#define B " + ")".repeat(4000));
         Bench bench = full("#define A " + "(".repeat(4000) + "\n#define B " + ")".repeat(4001), 2);
@@ -281,6 +298,7 @@ public final class SecondLimitsTest {
         fine("#pragma " + "(".repeat(7998));
         full("\n#pragma " + "(".repeat(7999), 2);
         full("a\n\\\n #pragma " + "(".repeat(7999), 3);
+        fine(";".repeat(4500) + "\n#pragma " + "(".repeat(4000));
     }
 
     private static void longCondition() {
@@ -446,6 +464,10 @@ public final class SecondLimitsTest {
         String twice = "#define f(x) x x\n";
         behindSpellings(twice + named(LEFT - 8) + "\n\nf(__LINE__)", 0, 0);
         behindSpellings(twice + named(LEFT - 7) + "\n\nf(\n__LINE__)", 21, 25);
+        String thrice = "#define f(x) x x x\n";
+        behindSpellings(thrice + named(LEFT - 11) + "\n\nf(__LINE__)", 0, 0);
+        behindSpellings(thrice + named(LEFT - 10) + "\n\nf(\n__LINE__)", 21, 25);
+        behindSpellings(thrice + named(LEFT - 11) + "\n\nf(__LINE__)\n__LINE__", 21, 25);
     }
 
     private static void spellingsLeaveWhatIsThere() {
@@ -598,6 +620,7 @@ public final class SecondLimitsTest {
         String others = "#define f(x) x\n#define n(x) 0\n#define s(x) #x\n#define j(x) x##1\n";
         Bench.gives(2, others + "f(".repeat(60) + "n(f(1)) s(f(1)) j(f)" + ")".repeat(60), "0 \"f(1)\" f1\n");
         Bench.fails(2, others + "f(".repeat(60) + "n(1) f(1)" + ")".repeat(61), 20, 5);
+        Bench.fails(2, others + "f(".repeat(60) + "n(" + list(40, "") + ")" + ")".repeat(60), 17, 5);
         // Behind one another they are not in one another.
         Bench.gives(2, macros + "f(1) ".repeat(100), "1 ".repeat(99) + "1\n");
     }
@@ -606,6 +629,7 @@ public final class SecondLimitsTest {
         String f = "#define f(x) x\n";
         Bench.gives(2, f + "#if " + "f(".repeat(60) + "1" + ")".repeat(60) + "\nx\n#endif", "x\n");
         Bench.fails(2, f + "\n#if " + "f(".repeat(61) + "1" + ")".repeat(61), 20, 3);
+        Bench.gives(2, f + "#define T 1\n#if 2 + " + "f(".repeat(60) + "T" + ")".repeat(60) + " == 3\nx\n#endif", "x\n");
         Bench.fails(2, f + "#line " + "f(".repeat(60) + "\\\nf(1" + ")".repeat(61), 20, 3);
         Bench.fails(2, f + "#include " + "f(".repeat(61) + "1" + ")".repeat(61), 20, 2);
     }
