@@ -377,6 +377,9 @@ public final class FirstEdgesTest {
         gives("divert(-1)a`'len(b)", "");
         gives("a`'divert(1)b`'undivert(0)divert(0)c", "acb");
         gives("a`'divert(1)b`'undivert`'divert(0)c", "acb");
+        // Each run begins with 0.
+        gives("a divert(-1)b", "a ");
+        gives("a`'divert(0)b`'divert(1)c", "abc");
     }
 
     private static void quoteLengths() {

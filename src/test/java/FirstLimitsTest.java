@@ -261,6 +261,8 @@ public final class FirstLimitsTest {
         // A long text takes the place of another one, again and again.
         String again = "define(`a',`'" + grown(15990) + "`'yy)substr(a,15985) len(a) define(`a',`'" + grown(15991) + "`'z)substr(a,15985) len(a) ";
         Bench.gives(1, FILLED + again + again, "\n" + "xxxxxyy 15992 xxxxxxz 15992 ".repeat(2));
+        String gone = K + "define(`t',`'" + grown(5000) + ")define(`u',t)define(`v',t)undefine(`t',`u',`v')\n";
+        Bench.gives(1, gone + again + again, "\n" + "xxxxxyy 15992 xxxxxxz 15992 ".repeat(2));
     }
 
     private static void bytesOfMeaningsThatAreGone() {
@@ -326,12 +328,13 @@ public final class FirstLimitsTest {
                 }
             }
         }
+        text.append("define(`t',`'big(9))".repeat(60));
         for (int i = 0; i < 25; i++) {
             text.append("n").append(i).append("(a)");
             want.append("<").append(i).append(":a:2>");
         }
         text.append("len(t)p popdef(`p')p undefine(`p')p incr(1)");
-        want.append("1p24 p21 p 2");
+        want.append("902p24 p21 p 2");
         Bench.gives(1, text.toString(), want.toString());
     }
 

@@ -206,6 +206,7 @@ public final class SecondEdgesTest {
             bench.file("m", "#include \"b\"\n#include \"c\"");
             bench.file("b", pair[0]);
             bench.file("c", pair[1]);
+            bench.mill.run(0, 2, 1, 1);
             bench.due("run", bench.mill.run(0, 2, 1, 1), 0);
             bench.due("out", bench.out(), pair[0] + "\n" + pair[1] + "\n");
         }
@@ -213,6 +214,7 @@ public final class SecondEdgesTest {
         bench.file("m", "#include \"b\"\n#include \"c\"");
         bench.file("b", "a..");
         bench.file("c", ".b");
+        bench.mill.run(0, 2, 1, 1);
         bench.due("run", bench.mill.run(0, 2, 1, 1), 0);
         bench.due("out", bench.out(), "a . .\n. b\n");
         bench = new Bench().about("quotes, a comment and a splice at a file's end");
@@ -227,8 +229,10 @@ public final class SecondEdgesTest {
             bench.due("out", bench.out(), want[i]);
         }
         bench.file("m", "#include \"b\"\n#include \"c\"\n#include \"d\"\n#include \"e\"\n#include \"f\"");
-        bench.due("run", bench.mill.run(5, 2, 1, 1), 0);
-        bench.due("out", bench.out(), String.join("", want));
+        for (int i = 0; i < 3; i++) {
+            bench.due("run", bench.mill.run(5, 2, 1, 1), 0);
+            bench.due("out", bench.out(), String.join("", want));
+        }
     }
 
     /** A comment's end is not what a run before left behind the file. */
