@@ -1723,7 +1723,6 @@ public final class MacroMill {
             return (int) spelling[token];
         }
 
-
         boolean isSign(int token, int sign) {
             return length(token) == 1 && bytes[from(token)] == sign;
         }

@@ -427,6 +427,8 @@ public final class SecondEdgesTest {
         String longest = "t".repeat(64);
         withTitle(longest, "\n#include <" + longest + ">", 0);
         withTitle(longest, "\n#include <" + longest + "t>", 9);
+        withTitle(longest, "\n#include <" + longest + " t>", 9);
+        withTitle(longest, "\n#include <" + "t".repeat(63) + " t>", 9);
         withTitle("t " + "t".repeat(62), "\n#include < t \t" + "t".repeat(62) + " >", 0);
         withTitle("a/b.h", "\n#include <a/b.h>", 0);
         withTitle("a / b", "\n#include <a / b>", 0);
