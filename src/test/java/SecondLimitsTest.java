@@ -262,7 +262,7 @@ public final class SecondLimitsTest {
     private static void macrosThatAreLeft() {
         Bench.gives(2, "#define a 1 2 3\n#define b(x,y) y x\n#define c 4 5\n#define e\n#undef a\nb(6,7) c a e\n#undef c\n#define a 8\nb(6,7) c a e",
                 "7 6 4 5 a\n7 6 c 8\n");
-        Bench.gives(2, "#define a 1 2\n#define b 3 4 5\n#undef a\n#define a 6 7\n#undef b\n#define c 8\na c", "6 7 8\n");
+        Bench.gives(2, "#define a 1 2\n#define b 3 4 5\n#undef a\n#define a 6 7\n#undef b\n#define c 8 9 10\na c", "6 7 8 9 10\n");
     }
 
     private static void rowOfText() {
