@@ -2328,6 +2328,7 @@ public final class MacroMill {
         private final int[] argumentStop = new int[PLACES];
         /** What an argument became when it was replaced, and what that took: it would be the same again. */
         private final int[] keptFirst = new int[PLACES];
+        private final int[] keptLast = new int[PLACES];
         private final int[] keptCount = new int[PLACES];
         private final int[] keptSubstituted = new int[PLACES];
         private final int[] keptMade = new int[PLACES];
@@ -2638,6 +2639,7 @@ public final class MacroMill {
             }
             keptCount[place] = count[depth] - before;
             keptFirst[place] = last == Tokens.END ? head[depth] : tokens.next[last];
+            keptLast[place] = tail[depth];
             keptSubstituted[place] = outcome.substituted - substituted;
             keptMade[place] = tokens.made - made;
             outcome.substituted += keptCount[place];
@@ -2722,14 +2724,16 @@ public final class MacroMill {
             }
             tokens.spelling[left] = pasted;
             tokens.look[left] = Tokens.withSet(Tokens.withKind(tokens.look[left], tokens.scannedKind()), set);
-            forgetKept(depth);
+            forgetKept(depth, left);
         }
 
-        /** What an argument became may end in a token that was pasted to since. */
-        private void forgetKept(int depth) {
+        /** What an argument became is not that any more if another token is pasted to its last one. */
+        private void forgetKept(int depth, int pasted) {
             int place = depth * Macros.MOST_PARAMETERS;
             for (int i = 0; i < Macros.MOST_PARAMETERS; i++) {
-                keptCount[place + i] = -1;
+                if (keptLast[place + i] == pasted) {
+                    keptCount[place + i] = -1;
+                }
             }
         }
 

@@ -182,6 +182,9 @@ public final class ReplacingTest {
         fails(f + "f(".repeat(61) + ")".repeat(61) + "a", 20, 2);
         Bench pasted = gives("#define f(x,y,z,w) x y##z##w x\n#define P p q\nf(P,,,b)", "p qb p q\n");
         pasted.due("told(4)", pasted.mill.told(4), 8);
+        Bench beside = gives("#define f(x) x a##b x c##d x\n#define P p q\nf(P)f()", "p q ab p q cd p q ab cd\n");
+        beside.due("told(4)", beside.mill.told(4), 16);
+        gives("#define f(x) x a##b x\n" + "f(".repeat(8) + ")".repeat(8) + "c", "ab ".repeat(255) + "c\n");
         gives("#define f(x) x x x\n#define g(x,y) f(x)f(y)x\n#define A f(a)\ng(A,f(g(1,2)))",
                 "a a a ".repeat(3) + "1 1 1 2 2 2 1 ".repeat(9) + "a a a\n");
     }

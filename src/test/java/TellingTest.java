@@ -9,6 +9,7 @@ public final class TellingTest {
     private static final int LEAST = Integer.MIN_VALUE, MOST = Integer.MAX_VALUE;
 
     public static void main(String[] args) {
+        exampleOfTheReadme();
         wrongRuns();
         wrongRunsChangeNothing();
         widestRuns();
@@ -33,6 +34,18 @@ public final class TellingTest {
         outBehindAnError();
         room();
         Bench.finish("TellingTest");
+    }
+
+    /** As README.md has it. */
+    private static void exampleOfTheReadme() {
+        Bench bench = new Bench().about("the README's example");
+        bench.mill.feed(0x6D2E6323, 0x64656669, 0x6E652061, 0x20622062, 0x0A612031);
+        bench.mill.feed(0x0A000000, 0, 0, 0, 0);
+        bench.due("end", bench.mill.end(1), 21);
+        bench.due("file", bench.mill.file(3), 0);
+        bench.due("run", bench.mill.run(0, 2, 1000, 5), 0);
+        bench.due("size", bench.mill.size(), 6);
+        bench.due("word", bench.mill.word(0), 0x0A3120622062L);
     }
 
     private static final int[][] WRONG = {{-1, 1, 1, 0}, {1, 1, 1, 0}, {0, 0, 1, 0}, {0, 4, 1, 0}, {0, -1, 1, 0}, {0, 1, 0, 0}, {0, 2, 0, 0}, {0, 3, 0, 0},
