@@ -14,6 +14,7 @@ public final class FirstEdgesTest {
         callsWithoutEnd();
         numberOfArguments();
         builtInNamesWithoutParenthesis();
+        namesLikeBuiltInOnes();
         meaningThatIsGone();
         marksInTexts();
         namesThatAreDefined();
@@ -160,6 +161,19 @@ public final class FirstEdgesTest {
         gives(f + "f (,)", "0 (,)");
         gives(f + "f\n()", "0\n()");
         gives(f + "f`'(a)", "0(a)");
+    }
+
+    /** A name that differs from a built-in one in a single letter is no macro. */
+    private static void namesLikeBuiltInOnes() {
+        String names = "define pushdef undefine popdef ifdef ifelse eval incr decr len index substr shift dnl divert undivert changequote";
+        for (String known : names.split(" ")) {
+            StringBuilder text = new StringBuilder();
+            for (int i = 0; i < known.length(); i++) {
+                text.append(known, 0, i).append('z').append(known.substring(i + 1)).append("(1) ");
+            }
+            text.append(known, 1, known.length()).append("() ").append(known, 0, known.length() - 1).append("() ").append(known).append("s()");
+            gives(text.toString(), text.toString());
+        }
     }
 
     private static void builtInNamesWithoutParenthesis() {

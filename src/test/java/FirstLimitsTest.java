@@ -28,7 +28,10 @@ public final class FirstLimitsTest {
         nameBeforeRoom();
         manyMeanings();
         movedMeanings();
+        meaningsBesideOneThatIsGone();
+        meaningsOfTheRunBefore();
         manyNames();
+        namesBehindOneAnother();
         behindAnError();
         roomBehindAnError();
         Bench.finish("FirstLimitsTest");
@@ -336,6 +339,41 @@ public final class FirstLimitsTest {
         text.append("len(t)p popdef(`p')p undefine(`p')p incr(1)");
         want.append("902p24 p21 p 2");
         Bench.gives(1, text.toString(), want.toString());
+    }
+
+    /** A great text is gone when the small ones that lay behind it must be moved. */
+    private static void meaningsBesideOneThatIsGone() {
+        StringBuilder text = new StringBuilder(K + "define(`w',`'" + grown(15620) + ")");
+        StringBuilder want = new StringBuilder();
+        for (int i = 0; i < 9; i++) {
+            text.append("define(`s").append(i).append("',`").append(i).append("bcdefgh')");
+            want.append(i).append("bcdefgh ");
+        }
+        text.append("undefine(`w')define(`define',`D')");
+        text.append(("pushdef(`v',`'" + grown(15990) + ")popdef(`v')").repeat(3));
+        for (int i = 0; i < 9; i++) {
+            text.append("s").append(i).append(" ");
+        }
+        Bench.gives(1, text + "define(k) incr(1) len(`ab') v", want + "D 2 2 v");
+    }
+
+    /** The texts that a run had in its end take no room of the next one, be they of a built-in name. */
+    private static void meaningsOfTheRunBefore() {
+        Bench bench = new Bench().about("meanings of the run before");
+        bench.file("before", K + "define(`p',`'" + grown(8000) + ")define(`q',`'" + grown(7000) + ")define(`incr',`" + x(300) + "')");
+        bench.file("behind", K + ("define(`v',`'" + grown(16000) + ")").repeat(4) + "len(v)incr(1)eval(1+1)k");
+        for (int i = 0; i < 2; i++) {
+            bench.due("run", bench.mill.run(0, 1, 400000, 0), 0);
+            bench.due("run", bench.mill.run(1, 1, 400000, 0), 0);
+            bench.due("out", bench.out(), "1600022" + x(256));
+        }
+    }
+
+    /** Aa and BB have the same sum of 31 times a byte and the next one, and so may lie in one chain. */
+    private static void namesBehindOneAnother() {
+        Bench.gives(1, "pushdef(`BB',1)undefine(`define')pushdef(`Aa',2)undefine(`BB')Aa BB", "2 BB");
+        Bench.gives(1, "pushdef(`Aa',1)undefine(`define')pushdef(`BB',2)popdef(`Aa')Aa BB", "Aa 2");
+        Bench.gives(1, "pushdef(`Aa',1)pushdef(`BB',2)pushdef(`Aa',3)undefine(`define')pushdef(`BB',4)undefine(`Aa')Aa BB`'popdef(`BB')BB", "Aa 42");
     }
 
     /** So many names that some of them lie in the same chain. */

@@ -16,6 +16,7 @@ public final class SecondEdgesTest {
         endsOfPastedTokens();
         signs();
         directiveNames();
+        namesLikeOthers();
         tokensOfLongerLines();
         parametersOfMacros();
         hashes();
@@ -312,6 +313,24 @@ public final class SecondEdgesTest {
         fails("#error", 16, 1);
         fails("x\n\n#error a b '\n", 16, 3);
         gives("#define EMPTY\nEMPTY # define A\nA", "# define A\nA\n");
+    }
+
+    /** A name that differs from a known one in a single letter is any name. */
+    private static void namesLikeOthers() {
+        for (String known : new String[] {"defined", "__LINE__", "__FILE__", "__VA_ARGS__"}) {
+            for (int i = 0; i < known.length(); i++) {
+                String like = known.substring(0, i) + "q" + known.substring(i + 1);
+                gives(like + "\n#define " + like + " 5\n" + like + "\n#undef " + like + "\n#if !" + like + "\nx\n#endif", like + "\n5\nx\n");
+                gives("#define f(...) " + like + "\nf(1)", like + "\n");
+            }
+        }
+        for (String known : "define undef ifdef ifndef include if elif else endif line error pragma".split(" ")) {
+            for (int i = 0; i < known.length(); i++) {
+                fails("#" + known.substring(0, i) + "q" + known.substring(i + 1), 2, 1);
+            }
+        }
+        fails("#define f(1..) x", 4, 1);
+        fails("#define f(x,2..) x", 4, 1);
     }
 
     /** What a longer line before had is no token of this one. */

@@ -9,6 +9,8 @@ public final class SecondLimitsTest {
         setsThatComeAgain();
         setsThatNoTokenGets();
         setsOfPasting();
+        setsOfPastingAlone();
+        setsOfTexts();
         numberOfNames();
         namesThatWereMacros();
         namesThatHideThemselves();
@@ -185,6 +187,21 @@ public final class SecondLimitsTest {
         // What they have in common is none: that is no set.
         fine(chain(44) + singles(9) + "#define j(x,y) x##y\nj(a,b)");
         full(chain(44) + singles(10) + "#define j(x,y) x##y\nj(a,b)", 45 + 11 + 2);
+    }
+
+    /** All sets but that of the pasted token, and then its last one, were there before. */
+    private static void setsOfPastingAlone() {
+        String macros = "\n#define j(x,y) x##y\n#define P(x) x\n#define Q(x) x\n#define R(x) x\n#define g(x) j x\n\n";
+        String pasting = macros + "g((P(Q(a)),))\ng((P(Q(a)),P(R(b))))";
+        fine(chain(44) + singles(0) + pasting);
+        full(chain(44) + singles(1) + pasting, 45 + 2 + 9);
+        full(chain(44) + singles(2) + pasting, 45 + 3 + 9);
+    }
+
+    /** A TEXT made by # has no set of its own. */
+    private static void setsOfTexts() {
+        fine(chain(44) + singles(9) + "#define t(x) #x x\nt(1)");
+        full(chain(44) + singles(10) + "#define t(x) #x\nt(1)", 45 + 11 + 2);
     }
 
     private static String names(int count) {
