@@ -341,20 +341,30 @@ public final class FirstLimitsTest {
         Bench.gives(1, text.toString(), want.toString());
     }
 
-    /** A great text is gone when the small ones that lay behind it must be moved. */
-    private static void meaningsBesideOneThatIsGone() {
+    /** Small texts that lie behind a great one, which is gone when they must be moved. */
+    private static String besideOneThatIsGone() {
         StringBuilder text = new StringBuilder(K + "define(`w',`'" + grown(15620) + ")");
-        StringBuilder want = new StringBuilder();
         for (int i = 0; i < 9; i++) {
             text.append("define(`s").append(i).append("',`").append(i).append("bcdefgh')");
-            want.append(i).append("bcdefgh ");
         }
         text.append("undefine(`w')define(`define',`D')");
         text.append(("pushdef(`v',`'" + grown(15990) + ")popdef(`v')").repeat(3));
         for (int i = 0; i < 9; i++) {
             text.append("s").append(i).append(" ");
         }
-        Bench.gives(1, text + "define(k) incr(1) len(`ab') v", want + "D 2 2 v");
+        return text + "define(k) incr(1) len(`ab') v";
+    }
+
+    private static String givenBesideOneThatIsGone() {
+        StringBuilder want = new StringBuilder();
+        for (int i = 0; i < 9; i++) {
+            want.append(i).append("bcdefgh ");
+        }
+        return want + "D 2 2 v";
+    }
+
+    private static void meaningsBesideOneThatIsGone() {
+        Bench.gives(1, besideOneThatIsGone(), givenBesideOneThatIsGone());
     }
 
     /** The texts that a run had in its end take no room of the next one, be they of a built-in name. */
@@ -367,6 +377,12 @@ public final class FirstLimitsTest {
             bench.due("run", bench.mill.run(1, 1, 400000, 0), 0);
             bench.due("out", bench.out(), "1600022" + x(256));
         }
+        Bench many = new Bench().about("many meanings of the run before");
+        many.file("before", K + meanings(10, "define(`n#',1)") + "define(`q',`'" + grown(15990) + ")");
+        many.file("behind", besideOneThatIsGone());
+        many.due("run", many.mill.run(0, 1, 400000, 0), 0);
+        many.due("run", many.mill.run(1, 1, 400000, 0), 0);
+        many.due("out", many.out(), givenBesideOneThatIsGone());
     }
 
     /** Aa and BB have the same sum of 31 times a byte and the next one, and so may lie in one chain. */
